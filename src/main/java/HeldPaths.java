@@ -1348,7 +1348,6 @@ public final class HeldPaths {
             super(n, a, trace);
         }
 
-        @Override
         int stays(int x) {
             trace.begin(20);
             return super.stays(x) - a;
@@ -1360,13 +1359,11 @@ public final class HeldPaths {
             super(n, a, trace);
         }
 
-        @Override
         int leads(int x) {
             trace.begin(30);
             return super.leads(x) * 3;
         }
 
-        @Override
         int tells(int x) {
             trace.begin(31);
             return super.tells(x) + shares(n);
@@ -1378,13 +1375,11 @@ public final class HeldPaths {
             super(n, a, trace);
         }
 
-        @Override
         int leads(int x) {
             trace.begin(40);
             return 0 - super.leads(x);
         }
 
-        @Override
         int stays(int x) {
             trace.begin(41);
             return super.stays(x) + leads(n);
@@ -1396,13 +1391,11 @@ public final class HeldPaths {
             super(n, a, trace);
         }
 
-        @Override
         int shares(int x) {
             trace.begin(50);
             return super.shares(x + 2) ^ 1;
         }
 
-        @Override
         int leads(int x) {
             trace.begin(51);
             return super.leads(x) - n;
@@ -1414,13 +1407,11 @@ public final class HeldPaths {
             super(n, a, trace);
         }
 
-        @Override
         int tells(int x) {
             trace.begin(60);
             return super.tells(x) * 2;
         }
 
-        @Override
         int shares(int x) {
             trace.begin(61);
             return super.shares(x) + leads(a);

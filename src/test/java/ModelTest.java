@@ -2,7 +2,7 @@ import java.util.Random;
 
 /** Long runs of calls, the same on HeldPaths and on the Model: every answer and all that can be seen must agree. */
 public final class ModelTest {
-    private static final int RUNS = 600, CALLS = 512;
+    private static final int RUNS = 400, CALLS = 512;
     private static int wrong;
     private static StringBuilder told;
     private static Random random;

@@ -1026,15 +1026,37 @@ public final class HeldPaths {
         }
 
         long bestWithin(Wood wood, int a, int b, int n) {
-            joinAll(wood);
+            lookAhead(wood);
+            if (n == 0) {
+                return joins(wood.there, a, b) ? 1 : 0;
+            }
             for (int c = 0; c < CLEARINGS; c++) {
                 valueWhereJoined(c * PATH_SETS, c, b);
             }
-            for (int i = 0; i < n; i++) {
+            for (int i = 1; i < n; i++) {
                 waitOneNight(wood);
                 goWhereBest();
             }
-            return value[a * PATH_SETS + wood.there];
+            return bestWait(wood.there, a);
+        }
+
+        /** The next night is from one set of paths alone: no need to know the values of the others. */
+        private long bestWait(int there, int from) {
+            long best = 0;
+            for (int c = 0; c < CLEARINGS; c++) {
+                if (joins(there, from, c)) {
+                    best = Math.max(best, valueOfWaiting(c));
+                }
+            }
+            return best;
+        }
+
+        private long valueOfWaiting(int clearing) {
+            long sum = 0;
+            for (int s = 0; s < sets; s++) {
+                sum += chance[s] * value[clearing * PATH_SETS + s];
+            }
+            return sum;
         }
 
         private void waitOneNight(Wood wood) {
@@ -1055,12 +1077,15 @@ public final class HeldPaths {
             }
         }
 
-        /** Clearings that reach one another share one best, so it does no harm that some hold it already. */
+        /** Clearings that reach one another share one best, which the least of them has got first. */
         private long bestReached(int set, int from) {
             long best = 0;
             for (int c = 0; c < CLEARINGS; c++) {
                 if (joins(set, from, c)) {
                     best = Math.max(best, value[c * PATH_SETS + set]);
+                    if (c < from) {
+                        return best;
+                    }
                 }
             }
             return best;

@@ -913,7 +913,7 @@ public final class HeldPaths {
             long result = reaches;
             for (int c = 0; c < CLEARINGS; c++) {
                 if ((both >>> c & 1) != 0) {
-                    result = result & ~(255L << 8 * c) | both << 8 * c;
+                    result |= both << 8 * c;
                 }
             }
             return result;

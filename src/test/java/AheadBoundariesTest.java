@@ -12,6 +12,7 @@ public final class AheadBoundariesTest {
         oddsInRange();
         fractions();
         oddsOfNights();
+        oddsApart();
         heldInRange();
         heldOfSeveral();
         heldThatAreThere();
@@ -168,6 +169,29 @@ public final class AheadBoundariesTest {
         dueOdds(x, 1, 2, 1, 1);
         due("nothing changes", x.count(1), 1);
         due("nothing changes", x.seed(1), 1);
+    }
+
+    /** Two paths that are sure, anywhere: they join their own ends, and nothing else. */
+    private static void oddsApart() {
+        Due.about("20: with what odds there is one: who has no PATH has no WAY, whatever there is elsewhere");
+        for (int pairs = 0; pairs < 8 * 8 * 8 * 8; pairs++) {
+            int a = pairs & 7, b = pairs >> 3 & 7, c = pairs >> 6 & 7, d = pairs >> 9;
+            if (a < b && c < d) {
+                HeldPaths x = new HeldPaths();
+                x.path(0, a, b, 8, 0);
+                x.path(2, d, c, 0, 0);
+                int one = 1 << a | 1 << b, two = 1 << c | 1 << d;
+                boolean met = (one & two) != 0;
+                for (int from = 0; from < 8; from++) {
+                    int own = 1 << from;
+                    int joined = own | ((own & one) != 0 ? one : 0) | ((own & two) != 0 ? two : 0);
+                    int reach = met && joined != own ? one | two : joined;
+                    due("reach(" + from + ")", x.reach(from), reach);
+                    due("home(" + from + ", 8)", x.home(from, 8), reach);
+                    due("home(" + from + ", 1)", x.home(from, 1), reach);
+                }
+            }
+        }
     }
 
     // ---- 21
@@ -428,6 +452,15 @@ public final class AheadBoundariesTest {
         dueWithin(gone(8, 0, 1), 0, 1, 1, E8 - S8, E8);
         dueWithin(gone(8, 0, 1), 0, 1, 2, E8 * E8 - S16, E8 * E8);
         dueWithin(gone(8, 0, 7), 0, 1, 2, E8 * E8 - 1, E8 * E8);
+        Due.about("24: behind the first night PATHS that came STAY, others come, by what they are");
+        HeldPaths two = new HeldPaths();
+        two.path(0, 0, 1, 2, 4);
+        two.path(0, 1, 2, 2, 4);
+        Due.close(two, 0, 1);
+        // Behind the first night by 1/4 each: both; the first alone, then he waits in 1: 1/2; the second alone, he
+        // waits in 0: 1/2 of 1/4; none: 1/2 of 1/2.
+        dueWithin(two, 0, 2, 1, 1, 4);
+        dueWithin(two, 0, 2, 2, 15, 32);
         Due.about("24: he waits where it is best");
         HeldPaths x = new HeldPaths();
         x.path(0, 0, 1, 0, 0);

@@ -16,7 +16,9 @@ public final class WoodBoundariesTest {
         bytesOfEight();
         numbersInTexts();
         wordsInTexts();
+        kindsInTexts();
         wrongWords();
+        misspelt();
         cutTexts();
         everyByte();
         blanks();
@@ -255,6 +257,39 @@ public final class WoodBoundariesTest {
         fault("rain ^gone;");
     }
 
+    private static void kindsInTexts() {
+        Due.about("3: KIND (path | track | wall | deer | bog | ride): its ends, STAY, COME; gone: not there");
+        for (int kind = 0; kind < 6; kind++) {
+            for (int there = 0; there < 2; there++) {
+                HeldPaths x = new HeldPaths();
+                due(KINDS[kind], Due.told(x, KINDS[kind] + " 6 2 stay 5 come 3" + (there == 0 ? " gone;" : ";")), 1);
+                int[] told = {kind, 6, 2, 5, 3, there};
+                for (int what = 0; what < 6; what++) {
+                    due(KINDS[kind] + ": pathOf(0, " + what + ")", x.pathOf(0, what), told[what]);
+                }
+            }
+        }
+    }
+
+    /** Every NAME with one letter of it another one. */
+    private static void misspelt() {
+        Due.about("3: a NAME that is none");
+        String[] things = {
+            "path 0 1 stay 2 come 3 gone ;", "track 0 1 stay 2 come 3 ;", "wall 0 1 stay 2 come 3 ;",
+            "deer 0 1 stay 2 come 3 ;", "bog 0 1 stay 2 come 3 ;", "ride 0 1 stay 2 come 3 ;",
+            "walker 7 pay 12 ;", "rain ;", "weight 7 9 ;"
+        };
+        for (String thing : things) {
+            for (int i = 0; i < thing.length(); i++) {
+                if (Character.isLetter(thing.charAt(i))) {
+                    int start = thing.lastIndexOf(' ', i) + 1;
+                    String wrong = thing.substring(0, i) + (thing.charAt(i) == 'z' ? 'a' : 'z') + thing.substring(i + 1);
+                    fault(wrong.substring(0, start) + "^" + wrong.substring(start));
+                }
+            }
+        }
+    }
+
     /** At each place of each thing every word that can't stand there. */
     private static void wrongWords() {
         Due.about("3: the first NAME, NUMBER or other byte that can't stand there");
@@ -426,8 +461,11 @@ public final class WoodBoundariesTest {
         due("wood()", x.wood(), 0);
         due("many(4)", x.many(4), 0);
         due("WALKERS", x.many(1), 1);
+        x.path(0, 0, 1, 8, 8);
         due("wood() of nothing", x.wood(), 0);
         due("WALKERS", x.many(1), 0);
+        due("PATHS that are there", x.count(1), 0);
+        due("night(1)", x.night(1), 0);
         due("feed()", x.feed(0x20, 1), 1);
     }
 

@@ -1,7 +1,5 @@
 import java.io.IOException;
 import java.lang.management.ManagementFactory;
-import java.lang.reflect.Constructor;
-import java.lang.reflect.Field;
 import java.lang.reflect.InvocationTargetException;
 import java.lang.reflect.Method;
 import java.lang.reflect.Modifier;
@@ -9,23 +7,12 @@ import java.nio.file.Files;
 import java.nio.file.Path;
 import java.util.ArrayList;
 import java.util.Arrays;
-import java.util.HashSet;
 import java.util.List;
 import java.util.Random;
-import java.util.Set;
-import java.util.regex.Matcher;
-import java.util.regex.Pattern;
 
-/** What of LANGUAGE.md a machine can see: the face, words that are not used, sizes, that nothing throws, the room. */
+/** What of LANGUAGE.md a machine can see: its rules in the source, that nothing throws, the same answers, the room. */
 public final class LanguageTest {
-    private static final String FACE = "int feed(long,int) int wood() int path(int,int,int,int,int) int pathOf(int,int) "
-        + "int open(int,boolean) int rain(boolean) int weigh(int,int) int walker(int,int) int walkerOf(int,int) "
-        + "int walk(int,int) int on(int,int) int off(int,int) int put(int,int) int night(int) int count(int) int seed(int) "
-        + "int way(int,int) int reach(int) long odds(int,int,int) int held(int,int,int) int keepers(int,int,int) "
-        + "int home(int,int) long within(int,int,int,int) int seek(int) int rule(int,int) int ruleOf(int,int) "
-        + "int does(int,int) int goes(int,int) int prove(int) int row(int,int) int alterRow(int,int,int) int judge() "
-        + "int lays(int) int sheet(int,int,int) int write(int,int,int) int item(int,int,int) int shelf(int,int,int) "
-        + "int taken(int,int) int act(int,int,int) int trace(int) int many(int) int keep() int again()";
+    private static final String SOURCE = "src/main/java/HeldPaths.java";
     private static int wrong;
 
     private static void must(boolean is, String what) {
@@ -36,9 +23,8 @@ public final class LanguageTest {
     }
 
     public static void main(String[] args) throws Exception {
-        face();
-        classesInside();
-        source();
+        rulesHold();
+        rulesAreSeen();
         nothingThrows();
         room();
         System.out.println(wrong == 0 ? "the rules of LANGUAGE.md hold" : wrong + " rules do not hold");
@@ -47,112 +33,174 @@ public final class LanguageTest {
         }
     }
 
-    private static void face() {
-        int c = HeldPaths.class.getModifiers();
-        must(Modifier.isPublic(c) && Modifier.isFinal(c), "the class is public and final");
-        Set<String> found = new HashSet<>();
-        Set<String> names = new HashSet<>();
-        List<Method> hidden = new ArrayList<>();
-        for (Method m : HeldPaths.class.getDeclaredMethods()) {
-            if (Modifier.isPublic(m.getModifiers())) {
-                String types = Arrays.toString(m.getParameterTypes()).replaceAll("[\\[\\] ]", "");
-                found.add(m.getReturnType() + " " + m.getName() + "(" + types + ")");
-                names.add(m.getName());
-                must(!Modifier.isStatic(m.getModifiers()), m + " is not static");
-            } else {
-                must(Modifier.isPrivate(m.getModifiers()), m + " is private");
-                hidden.add(m);
-            }
-        }
-        must(found.equals(new HashSet<>(Arrays.asList(FACE.split("(?<=\\)) ")))), "the face is the document's, not " + found);
-        for (Method m : hidden) {
-            must(!names.contains(m.getName()), m + " bears no public name");
-        }
-        for (Class<?> inside : HeldPaths.class.getDeclaredClasses()) {
-            for (Method m : inside.getDeclaredMethods()) {
-                must(!names.contains(m.getName()), m + " bears no public name");
-            }
-        }
-        Constructor<?>[] made = HeldPaths.class.getDeclaredConstructors();
-        must(made.length == 1 && Modifier.isPublic(made[0].getModifiers()) && made[0].getParameterCount() == 0, "one constructor");
-        Set<String> constants = new HashSet<>();
-        for (Field f : HeldPaths.class.getDeclaredFields()) {
-            if (!Modifier.isPrivate(f.getModifiers())) {
-                constants.add(Modifier.toString(f.getModifiers()) + " " + f.getType() + " " + f.getName());
-            }
-        }
-        Set<String> due = new HashSet<>();
-        for (String name : new String[] {"BAD", "FULL", "NONE", "STATE"}) {
-            due.add("public static final int " + name);
-        }
-        must(constants.equals(due), "the constants are the document's, not " + constants);
-    }
-
-    private static void classesInside() {
-        List<Class<?>> all = new ArrayList<>(Arrays.asList(HeldPaths.class.getDeclaredClasses()));
-        all.add(HeldPaths.class);
-        must(all.size() <= 12, "twelve classes at most, not " + all.size());
-        for (Class<?> c : all) {
-            int fields = 0;
-            for (Field f : c.getDeclaredFields()) {
-                boolean isStatic = Modifier.isStatic(f.getModifiers());
-                must(!isStatic || Modifier.isFinal(f.getModifiers()), f + " is final");
-                fields += isStatic ? 0 : 1;
-            }
-            must(fields <= 20, c + " has twenty fields at most");
-            for (Method m : c.getDeclaredMethods()) {
-                must(m.getParameterCount() <= 7, m + " takes seven parameters at most");
-            }
-            if (c != HeldPaths.class) {
-                int is = c.getModifiers();
-                must(Modifier.isStatic(is) && !Modifier.isPublic(is) && !Modifier.isProtected(is), c + " is static and hidden");
-                must(c.getDeclaredClasses().length == 0, c + " has no classes inside");
-            }
+    private static void rulesHold() throws IOException {
+        for (String broken : Rules.brokenIn("HeldPaths", Files.readString(Path.of(SOURCE)))) {
+            must(false, "LANGUAGE.md, rule " + broken);
         }
     }
 
-    private static void source() throws IOException {
-        String whole = Files.readString(Path.of("src/main/java/HeldPaths.java"));
-        must(whole.chars().allMatch(b -> b == '\n' || b >= 32 && b < 127), "plain signs alone");
-        String code = whole.replaceAll("(?s)/\\*.*?\\*/", "").replaceAll("//[^\n]*", "").replaceAll("\"[^\"\n]*\"", "\"\"");
-        String[] never = {
-            "throw", "throws", "try", "catch", "finally", "synchronized", "assert", "package", "volatile", "transient",
-            "native", "goto", "Override", "var", "Object", "Thread", "Exception", "hashCode", "toString", "float", "double"
-        };
-        for (String word : never) {
-            must(!Pattern.compile("\\b" + word + "\\b").matcher(code).find(), "there is no " + word);
-        }
-        must(!code.contains("->") && !code.contains("::"), "there is no lambda and no method reference");
-        must(!Pattern.compile("Exact\\b").matcher(code).find(), "nothing ends in Exact");
-        Matcher imports = Pattern.compile("import ([^;]*);").matcher(code);
-        while (imports.find()) {
-            must(imports.group(1).matches("java\\.util\\.(Arrays|ArrayList|List)"), imports.group(1) + " may be used");
-        }
-        methodLengths(whole);
+    // ---- that a broken rule would be seen
+
+    /** A class in which all is as it should be but for what is put into it. */
+    private static String with(String member) {
+        return "import java.util.ArrayList;\nimport java.util.List;\npublic final class A {\n" + member
+            + "\nprivate static class B { int v; int f(int x) { return x; } }\n}\n";
     }
 
-    private static void methodLengths(String whole) {
-        String[] lines = whole.split("\n");
-        for (int i = 0; i < lines.length; i++) {
-            Matcher head = Pattern.compile("^( +)[^/*=]*\\w+\\(.*\\) \\{$").matcher(lines[i]);
-            boolean isHead = head.matches() && head.group(1).length() <= 8
-                && !lines[i].trim().matches("(if|for|while|switch|else|do|\\}).*");
-            if (isHead) {
-                int end = i;
-                while (end < lines.length - 1 && !lines[end].equals(head.group(1) + "}")) {
-                    end++;
-                }
-                must(end - i < 60, "short: " + lines[i]);
-            }
-        }
+    private static void good(String member) throws IOException {
+        List<String> broken = Rules.brokenIn("A", with(member));
+        must(broken.isEmpty(), "no rule is broken by " + member + ", but " + broken);
     }
 
-    /** Calls with numbers from everywhere, in states that such calls bring about. */
+    private static void bad(int rule, String member) throws IOException {
+        badWhole(rule, with(member));
+    }
+
+    private static void badWhole(int rule, String source) throws IOException {
+        List<String> broken = Rules.brokenIn("A", source);
+        must(broken.stream().anyMatch(b -> b.startsWith(rule + ": ")), "rule " + rule + " is broken by " + source + ", but only " + broken);
+    }
+
+    private static void rulesAreSeen() throws IOException {
+        good("private final B b = new B(); public int g(int x) { for (int i = 0; i < x && i < 9; i++) { b.v += i; } return b.f(x / 2); }");
+        good("private int[][] grid; private List<B> list = new ArrayList<>(); private static final int[] ROW = {1, 2};");
+        good("public int g(int x) { int by = x - 1; if (by == 0) { return 0; } return x / by + (int) 7L % -3; }");
+        classesAreSeen();
+        typesAreSeen();
+        callsAreSeen();
+        wordsAreSeen();
+        sizesAreSeen();
+        loopsAreSeen();
+    }
+
+    private static void classesAreSeen() throws IOException {
+        badWhole(0, "package a; public final class A { }");
+        badWhole(1, "final class A { }");
+        badWhole(1, "public class A { }");
+        badWhole(1, "public final class A { } class C { }");
+        bad(1, "int seen() { return 0; }");
+        bad(1, "protected int seen() { return 0; }");
+        bad(1, "int seen;");
+        bad(1, "public int seen;");
+        bad(1, "static final int SEEN = 1;");
+        bad(1, "public static class Seen { }");
+        bad(1, "public int twice(int x) { return twice(x, 2); } private int twice(int x, int y) { return x * y; }");
+        bad(2, "private class Inner { }");
+        bad(2, "public void g() { class Local { } }");
+        bad(2, "public void g() { B b = new B() { }; }");
+        bad(2, "private interface F { int f(int x); } public int g() { F f = x -> x; return f.f(1); }");
+        bad(2, "private interface F { int f(int x); } public int g() { F f = Math::abs; return f.f(1); }");
+        bad(12, "private static class C { int v; C() { v = f(); } int f() { return 1; } }");
+    }
+
+    private static void typesAreSeen() throws IOException {
+        bad(3, "private Object any;");
+        bad(3, "private Long big;");
+        bad(3, "private int[][][] cube;");
+        bad(3, "private String[] texts;");
+        bad(3, "private List<String> texts;");
+        bad(3, "private double half;");
+        bad(3, "public java.util.HashMap<Integer, Integer> g() { return null; }");
+        badWhole(3, "public final class A { /* " + (char) 233 + " */ }");
+        bad(4, "private String sign() { return \"\\u00e9\"; }");
+        bad(5, "private static int many;");
+        bad(5, "private static final B ONE = new B();");
+        bad(5, "private static final int[] ROW = new int[3];");
+        bad(5, "private static final int[] ROW = {1, 2}; public void g() { ROW[0] = 3; }");
+        bad(5, "private static final int[] ROW = {1, 2}; public void g() { ROW[0]++; }");
+        bad(5, "private static final int ONE; static { ONE = 1; }");
+    }
+
+    private static void callsAreSeen() throws IOException {
+        badWhole(4, "import java.util.Random; public final class A { }");
+        badWhole(4, "import java.util.*; public final class A { }");
+        badWhole(4, "import static java.lang.Math.abs; public final class A { }");
+        bad(4, "public long g() { return System.nanoTime(); }");
+        bad(4, "public int g() { return Math.addExact(1, 2); }");
+        bad(4, "public int g(String s) { return s.compareTo(s); }");
+        bad(4, "public int g(String s) { return s.indexOf(s); }");
+        bad(4, "public int g(B b) { return b.hashCode(); }");
+        bad(4, "public boolean g(B b) { return b.equals(b); }");
+        bad(4, "public int g() { return Integer.MAX_VALUE; }");
+        bad(4, "public int g() { return new java.util.Random().nextInt(); }");
+        bad(4, "@Deprecated public int g() { return 0; }");
+    }
+
+    private static void wordsAreSeen() throws IOException {
+        bad(6, "public void g() { throw null; }");
+        bad(6, "public void g() throws RuntimeException { }");
+        bad(6, "public void g() { try { g(); } finally { } }");
+        bad(6, "public void g() { synchronized (this) { } }");
+        bad(6, "public synchronized void g() { }");
+        bad(6, "public void g() { assert true; }");
+        bad(6, "private static class C extends B { } public int g(B b) { return ((C) b).v; }");
+        bad(6, "public boolean g(String s, String t) { return s == t; }");
+        bad(6, "public boolean g(Integer s, Integer t) { return s != t; }");
+        bad(6, "public String toString() { return null; }");
+        bad(7, "public int g(int x) { return 1 / x; }");
+        bad(7, "public int g(int x) { x %= x; return x; }");
+        bad(7, "public int g(int x) { return x / 0; }");
+        bad(10, "public String g(String s) { return s + 1; }");
+        bad(10, "public String g(String s) { s += 1; return s; }");
+        bad(10, "public int g(String s) { switch (s) { case \"a\": return 1; default: return 0; } }");
+    }
+
+    private static void sizesAreSeen() throws IOException {
+        bad(8, "public int g(int x) { return g(x); }");
+        bad(8, "public int g(int x) { return h(x); } private int h(int x) { return g(x); }");
+        bad(8, "private static class C extends B { int f(int x) { return h(x); } int h(int x) { return f(x); } }");
+        bad(11, "public void g(int a, int b, int c, int d, int e, int f, int g, int h) { }");
+        bad(11, "public void g() {" + "\n".repeat(60) + "}");
+        bad(11, "private int a" + fields(21) + ";");
+        bad(11, classes(11));
+        bad(11, chain(9));
+        good(chain(8));
+        good("private int a" + fields(20) + ";");
+        good(classes(10));
+        good("public void g() {" + "\n".repeat(59) + "}");
+    }
+
+    private static String fields(int n) {
+        StringBuilder s = new StringBuilder();
+        for (int i = 1; i < n; i++) {
+            s.append(", a").append(i);
+        }
+        return s.toString();
+    }
+
+    /** The class itself and B are two more. */
+    private static String classes(int n) {
+        StringBuilder s = new StringBuilder();
+        for (int i = 0; i < n; i++) {
+            s.append("private static class C").append(i).append(" { }\n");
+        }
+        return s.toString();
+    }
+
+    /** As many methods, each of which calls the next one. */
+    private static String chain(int n) {
+        StringBuilder s = new StringBuilder();
+        for (int i = 1; i < n; i++) {
+            s.append("private int g").append(i).append("() { return g").append(i + 1).append("(); }\n");
+        }
+        return s.append("private int g").append(n).append("() { return 1; }").toString();
+    }
+
+    private static void loopsAreSeen() throws IOException {
+        bad(9, "public void g() { while (true) { } }");
+        bad(9, "public void g(int x) { do { x++; } while (x < 5); }");
+        bad(9, "public void g() { for (;;) { } }");
+        bad(9, "public void g(int x) { for (int i = 0; i != x; i++) { } }");
+        bad(9, "public void g(int x) { for (int i = 0; i < x; i += x) { } }");
+        bad(9, "public void g(int x) { for (int i = 0; i < x; i++) { i--; } }");
+        bad(9, "public void g(int x) { for (int i = 0; i < x; i++) { x++; } }");
+        bad(9, "public void g(int x) { for (int i = 0; i < 5 || x > 0; i++) { } }");
+    }
+
+    // ---- runs
+
+    /** Calls with numbers from everywhere, in states that such calls bring about: none throws, and a twin answers alike. */
     private static void nothingThrows() throws IllegalAccessException {
-        int[] ints = {
-            Integer.MIN_VALUE, Integer.MIN_VALUE + 10, -100, -15, -10, -9, -2, -1, 0, 0, 1, 1, 2, 2, 3, 3, 4, 5, 6, 7, 8, 9,
-            10, 11, 12, 13, 14, 20, 21, 30, 31, 32, 39, 40, 41, 64, 99, 100, 240, 255, 256, Integer.MAX_VALUE - 1, Integer.MAX_VALUE
-        };
         Random random = new Random(44);
         List<Method> calls = new ArrayList<>();
         for (Method m : HeldPaths.class.getDeclaredMethods()) {
@@ -161,24 +209,38 @@ public final class LanguageTest {
             }
         }
         calls.sort((a, b) -> a.getName().compareTo(b.getName()));
-        for (int run = 0; run < 400; run++) {
+        for (int run = 0; run < 400 && wrong == 0; run++) {
             HeldPaths x = new HeldPaths();
-            for (int i = 0; i < 2000; i++) {
+            HeldPaths twin = new HeldPaths();
+            for (int i = 0; i < 2000 && wrong == 0; i++) {
                 Method m = calls.get(random.nextInt(calls.size()));
-                Object[] with = new Object[m.getParameterCount()];
-                for (int k = 0; k < with.length; k++) {
-                    Class<?> type = m.getParameterTypes()[k];
-                    boolean small = random.nextInt(4) > 0;
-                    int v = small ? random.nextInt(9) : ints[random.nextInt(ints.length)];
-                    with[k] = type == boolean.class ? (Object) random.nextBoolean() : type == long.class ? (Object) random.nextLong() : (Object) v;
-                }
-                try {
-                    m.invoke(x, with);
-                } catch (InvocationTargetException e) {
-                    must(false, m.getName() + Arrays.toString(with) + " throws nothing, but " + e.getCause());
-                    return;
-                }
+                Object[] with = numbersFor(m, random);
+                must(answer(m, x, with).equals(answer(m, twin, with)), m.getName() + Arrays.toString(with) + " answers alike twice");
             }
+        }
+    }
+
+    private static Object[] numbersFor(Method m, Random random) {
+        int[] ints = {
+            Integer.MIN_VALUE, Integer.MIN_VALUE + 10, -100, -15, -10, -9, -2, -1, 0, 0, 1, 1, 2, 2, 3, 3, 4, 5, 6, 7, 8, 9,
+            10, 11, 12, 13, 14, 20, 21, 30, 31, 32, 39, 40, 41, 64, 99, 100, 240, 255, 256, Integer.MAX_VALUE - 1, Integer.MAX_VALUE
+        };
+        Object[] with = new Object[m.getParameterCount()];
+        for (int k = 0; k < with.length; k++) {
+            Class<?> type = m.getParameterTypes()[k];
+            boolean small = random.nextInt(4) > 0;
+            int v = small ? random.nextInt(9) : ints[random.nextInt(ints.length)];
+            with[k] = type == boolean.class ? (Object) random.nextBoolean() : type == long.class ? (Object) random.nextLong() : (Object) v;
+        }
+        return with;
+    }
+
+    private static Object answer(Method m, HeldPaths x, Object[] with) throws IllegalAccessException {
+        try {
+            return m.invoke(x, with);
+        } catch (InvocationTargetException e) {
+            must(false, m.getName() + Arrays.toString(with) + " throws nothing, but " + e.getCause());
+            return "nothing";
         }
     }
 
